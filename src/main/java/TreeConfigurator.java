@@ -165,29 +165,17 @@ public final class TreeConfigurator {
 
     public char stateOf(int feature) throws IndexOutOfBoundsException {
         checkFeature(feature);
-        if (has(chosen | refused, feature)) {
-            return has(chosen, feature) ? 'c' : 'r';
-        }
         int bit = 1 << feature;
         boolean canBeIn = Search.reaches(tree, rules, ROOT, 0, chosen | bit, refused);
         boolean canBeOut = Search.reaches(tree, rules, ROOT, 0, chosen, refused | bit);
-        return stateLetter(canBeIn, canBeOut);
+        return stateLetter(feature, canBeIn, canBeOut);
     }
 
     public char stateByAll(int feature) throws IndexOutOfBoundsException {
         checkFeature(feature);
-        if (has(chosen | refused, feature)) {
-            return has(chosen, feature) ? 'c' : 'r';
-        }
-        boolean canBeIn = false;
-        boolean canBeOut = false;
-        for (int set = 0; set <= tree.allFeatures(); set++) {
-            if (isCompletion(set)) {
-                canBeIn = canBeIn || has(set, feature);
-                canBeOut = canBeOut || !has(set, feature);
-            }
-        }
-        return stateLetter(canBeIn, canBeOut);
+        boolean canBeIn = has(featuresInSome(), feature);
+        boolean canBeOut = !has(featuresInAll(), feature);
+        return stateLetter(feature, canBeIn, canBeOut);
     }
 
     public char known(int feature) throws IndexOutOfBoundsException {
@@ -367,8 +355,10 @@ public final class TreeConfigurator {
 
     public boolean isSound() {
         long number = completions();
+        int inAll = featuresInAll();
+        int inSome = featuresInSome();
         return number > 0 && number == completionsByAll() && cheapest() == cheapestByAll()
-                && statesAgree() && deductionIsSound();
+                && statesAgree(inAll, inSome) && knowledgeAgrees(inAll, inSome);
     }
 
     // What several calls need
@@ -409,7 +399,10 @@ public final class TreeConfigurator {
         return (set >> number & 1) != 0;
     }
 
-    private static char stateLetter(boolean canBeIn, boolean canBeOut) {
+    private char stateLetter(int feature, boolean canBeIn, boolean canBeOut) {
+        if (has(chosen | refused, feature)) {
+            return has(chosen, feature) ? 'c' : 'r';
+        }
         if (canBeIn) {
             return canBeOut ? 'o' : 'a';
         }
@@ -423,6 +416,26 @@ public final class TreeConfigurator {
     private boolean isCompletion(int set) {
         return (chosen & ~set) == 0 && (refused & set) == 0
                 && tree.allows(set) && rules.holdFor(set);
+    }
+
+    private int featuresInAll() {
+        int inAll = tree.allFeatures();
+        for (int set = 0; set <= tree.allFeatures(); set++) {
+            if (isCompletion(set)) {
+                inAll &= set;
+            }
+        }
+        return inAll;
+    }
+
+    private int featuresInSome() {
+        int inSome = 0;
+        for (int set = 0; set <= tree.allFeatures(); set++) {
+            if (isCompletion(set)) {
+                inSome |= set;
+            }
+        }
+        return inSome;
     }
 
     private int addRule(int wanted, int unwanted, int last) {
@@ -489,24 +502,20 @@ public final class TreeConfigurator {
         return more < 0 || more == 0 && other < best ? other : best;
     }
 
-    private boolean statesAgree() {
+    private boolean statesAgree(int inAll, int inSome) {
         for (int feature = 0; feature < tree.count; feature++) {
-            if (stateOf(feature) != stateByAll(feature)) {
+            boolean canBeIn = has(inSome, feature);
+            boolean canBeOut = !has(inAll, feature);
+            if (stateOf(feature) != stateLetter(feature, canBeIn, canBeOut)) {
                 return false;
             }
         }
         return true;
     }
 
-    private boolean deductionIsSound() {
+    private boolean knowledgeAgrees(int inAll, int inSome) {
         deduce();
-        for (int set = 0; set <= tree.allFeatures(); set++) {
-            boolean agrees = (deduction.in & ~set) == 0 && (deduction.out & set) == 0;
-            if (!agrees && isCompletion(set)) {
-                return false;
-            }
-        }
-        return true;
+        return (deduction.in & ~inAll) == 0 && (deduction.out & inSome) == 0;
     }
 
     /** The features with their parents and groups; the prices stand elsewhere. */
@@ -739,7 +748,10 @@ public final class TreeConfigurator {
         }
 
         private boolean learnByTree(Tree tree, int feature) {
-            char letter = letterByTree(tree, feature);
+            char letter = letterByKin(tree, feature);
+            if (letter == NO_LETTER) {
+                letter = letterByGroup(tree, feature);
+            }
             if (letter == NO_LETTER) {
                 return false;
             }
@@ -766,36 +778,35 @@ public final class TreeConfigurator {
             }
         }
 
-        private char letterByTree(Tree tree, int feature) {
+        private char letterByKin(Tree tree, int feature) {
             int below = tree.children[feature];
             int parent = tree.parents[feature];
-            boolean parentIsIn = parent >= 0 && has(in, parent);
             if ((below & in) != 0) {
                 return 'c';
             }
             if (parent >= 0 && has(out, parent)) {
                 return 'p';
             }
-            if (parentIsIn && has(tree.mandatory, feature)) {
+            if (parent >= 0 && has(in, parent) && has(tree.mandatory, feature)) {
                 return 'm';
             }
-            if ((below & tree.mandatory & out) != 0) {
-                return 'k';
-            }
-            char letter = parentIsIn ? letterByGroup(tree, parent) : NO_LETTER;
-            // More children in than the greatest number can't be met here: one child in told 'c'.
-            if (letter == NO_LETTER && Integer.bitCount(below & ~out) < tree.least[feature]) {
-                return 'g';
-            }
-            return letter;
+            return (below & tree.mandatory & out) != 0 ? 'k' : NO_LETTER;
         }
 
-        private char letterByGroup(Tree tree, int parent) {
-            int siblings = tree.children[parent];
-            if (Integer.bitCount(siblings & in) == tree.greatest[parent]) {
-                return 'f';
+        private char letterByGroup(Tree tree, int feature) {
+            int parent = tree.parents[feature];
+            if (parent >= 0 && has(in, parent)) {
+                int siblings = tree.children[parent];
+                if (Integer.bitCount(siblings & in) == tree.greatest[parent]) {
+                    return 'f';
+                }
+                if (Integer.bitCount(siblings & ~out) == tree.least[parent]) {
+                    return 'n';
+                }
             }
-            return Integer.bitCount(siblings & ~out) == tree.least[parent] ? 'n' : NO_LETTER;
+            // More children in than the greatest number can't be met here: one child in told 'c'.
+            int possible = Integer.bitCount(tree.children[feature] & ~out);
+            return possible < tree.least[feature] ? 'g' : NO_LETTER;
         }
     }
 

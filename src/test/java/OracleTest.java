@@ -10,14 +10,15 @@ import java.util.List;
  */
 public final class OracleTest {
     private static final int CALLS = 512;
-    private static final int RUNS = 200;
+    private static final int RUNS = 400;
 
     /** The calls that build and decide come more often than the others, each as its number says. */
     private static final String[] OFTEN = {
         "addFeature 9", "setMandatory 5", "setGroup 7", "require 6", "exclude 6", "any 4", "lift 2",
-        "choose 9", "refuse 9", "retract 6", "addBundle 2", "addPercent 2", "addSurcharge 2",
-        "removeLayer 3", "fewest 2", "toRetract 3", "force 4", "reasonOf 5", "reasonRule 6",
-        "known 3", "lineAt 5", "isConfiguration 4", "price 4",
+        "choose 9", "refuse 9", "retract 9", "retractAll 3", "stateOf 4", "stateByAll 4",
+        "addBundle 2", "addPercent 2", "addSurcharge 2", "removeLayer 3", "isConfiguration 4",
+        "price 4", "fewest 2", "toRetract 3", "force 4", "reasonOf 5", "reasonRule 6", "known 3",
+        "lineAt 5",
     };
 
     private final long seed;
@@ -25,10 +26,17 @@ public final class OracleTest {
     private final Method[] methods = methodsOf(TreeConfigurator.class);
     private final List<Integer> urn = new ArrayList<>();
     private int features = 1;
+    private int rules = 0;
+    private final int mostFeatures;
+    private final int mostRules;
+    private final int tied;
 
     private OracleTest(long seed) {
         this.seed = seed;
         this.state = seed * 0x9E3779B97F4A7C15L + 1;
+        this.mostFeatures = 2 + draw(11);
+        this.mostRules = draw(3) == 0 ? 20 : draw(8);
+        this.tied = 1 + draw(4);
         for (int method = 0; method < methods.length; method++) {
             int times = 1;
             for (String often : OFTEN) {
@@ -69,31 +77,44 @@ public final class OracleTest {
     private boolean agrees() throws ReflectiveOperationException {
         TreeConfigurator one = new TreeConfigurator();
         Oracle other = new Oracle();
-        int mostFeatures = 2 + draw(11);
         List<String> told = new ArrayList<>();
         for (int call = 0; call < CALLS; call++) {
             Method method = methods[urn.get(draw(urn.size()))];
-            if (method.getName().equals("addFeature") && features >= mostFeatures && draw(20) > 0) {
-                continue;
-            }
-            if (method.getName().equals("retractAll") && draw(3) > 0) {
+            if (isLeftOut(method.getName())) {
                 continue;
             }
             Object[] arguments = argumentsFor(method);
             Object got = answer(method, one, arguments);
-            Object want = answer(
-                    Oracle.class.getMethod(method.getName(), method.getParameterTypes()), other, arguments);
+            Method same = Oracle.class.getMethod(method.getName(), method.getParameterTypes());
+            Object want = answer(same, other, arguments);
             told.add(method.getName() + Arrays.toString(arguments) + " -> " + got);
             Due.answer("seed " + seed + ", call " + call + ": " + told.get(told.size() - 1), got, want);
             if (!got.equals(want)) {
                 told.forEach(System.out::println);
                 return false;
             }
-            if (method.getName().equals("addFeature") && got instanceof Integer) {
-                features++;
+            if (got instanceof Integer) {
+                features += method.getName().equals("addFeature") ? 1 : 0;
+                rules += isRule(method.getName()) ? 1 : 0;
             }
         }
         return true;
+    }
+
+    private static boolean isRule(String name) {
+        return name.equals("require") || name.equals("exclude") || name.equals("any");
+    }
+
+    /** Keeps most runs from ending up with all tied by rules or decided, and the sizes varied. */
+    private boolean isLeftOut(String name) {
+        if (name.equals("addFeature")) {
+            return features >= mostFeatures && draw(20) > 0;
+        }
+        if (isRule(name)) {
+            return rules >= mostRules && draw(20) > 0;
+        }
+        boolean ties = name.equals("complete") || name.equals("setMandatory") || name.equals("setGroup");
+        return ties && draw(6) >= tied;
     }
 
     private static Object answer(Method method, Object object, Object[] arguments)
@@ -131,12 +152,13 @@ public final class OracleTest {
             case "addSurcharge":
                 return index == 0 ? draw(15) - 1 : amount();
             case "setGroup":
-                return index == 0 ? feature() : index == 1 ? draw(3) : draw(4) == 0 ? draw(15) : draw(5);
+                return index == 0 ? feature() : index == 1 ? draw(3) * draw(2)
+                        : draw(4) == 0 ? draw(15) : 1 + draw(4);
             case "addFeature", "addBundle":
                 boolean isAmount = index == 2 || index == 1 && name.equals("addFeature");
                 return isAmount ? amount() : feature();
             default:
-                return feature();
+                return features > 1 && draw(4) > 0 ? 1 + draw(features - 1) : feature();
         }
     }
 
@@ -153,6 +175,6 @@ public final class OracleTest {
     }
 
     private int feature() {
-        return draw(40) == 0 ? features : draw(6) == 0 ? 0 : draw(features);
+        return draw(40) == 0 ? features : draw(8) == 0 ? 0 : draw(features);
     }
 }

@@ -85,6 +85,19 @@ public final class RuleTest {
         Due.answer("completions()", x.completions(), 7L);
         Due.answer("any(0, 1, 2)", x.any(0, 1, 2), 1);
         Due.answer("completions() still", x.completions(), 7L);
+        anyInEachOrder(1, 2, 3);
+        anyInEachOrder(3, 1, 2);
+        anyInEachOrder(1, 3, 2);
+    }
+
+    private static void anyInEachOrder(int first, int second, int third) {
+        TreeConfigurator x = Models.flat(3);
+        x.any(first, second, third);
+        Due.answer("completions()", x.completions(), 7L);
+        Due.answer("completionsByAll()", x.completionsByAll(), 7L);
+        x.refuse(first);
+        x.refuse(third);
+        Due.answer("the state of the one that is left", x.stateOf(second), 'a');
     }
 
     private static void anyRefused() {

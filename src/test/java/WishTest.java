@@ -9,6 +9,7 @@ public final class WishTest {
     public static void main(String[] args) {
         wishes();
         choices();
+        all();
         asking();
         askingRefused();
         forcing();
@@ -72,6 +73,18 @@ public final class WishTest {
         fewBeforeLow.exclude(5, 2);
         fewBeforeLow.exclude(6, 3);
         wish(fewBeforeLow, 4, true, 0b1000);
+    }
+
+    /** The wish holds in the set of all features alone. */
+    private static void all() {
+        TreeConfigurator x = Models.flat(3);
+        x.require(1, 2);
+        x.require(1, 3);
+        x.refuse(2);
+        wish(x, 1, true, 0b0100);
+        TreeConfigurator y = Models.flat(11);
+        y.setGroup(0, 11, 11);
+        wish(y, 11, true, 0);
     }
 
     /** To ask changes nothing. */
