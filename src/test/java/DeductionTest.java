@@ -1,138 +1,253 @@
-import java.util.NoSuchElementException;
-
-/** Promises 15 to 18: known, reasonOf, reasonRule and unknown; and the terms of deduction. */
+/** The terms of deduction: which letter applies when, and which of several comes first. */
 public final class DeductionTest {
-    private static final Class<IndexOutOfBoundsException> INDEX = IndexOutOfBoundsException.class;
-    private static final Class<NoSuchElementException> NONE = NoSuchElementException.class;
-
-    public static void main(String[] args) {
-        eachLetter();
-        groupLetters();
-        ruleLetters();
-        lowestRule();
-        letterOrder();
-        lowestFeatureFirst();
-        answers();
-        refusals();
-        Due.end();
+    public static void main(String[] args) throws IllegalAccessException {
+        Cases.run(DeductionTest.class);
     }
 
-    private static void eachLetter() {
-        TreeConfigurator x = Models.chain(4);
-        Due.answer("nothing decided", Probe.line(x), "0o+ 1? 2? 3?");
-        x.choose(3);
-        Due.answer("c", Probe.line(x), "0o+ 1c+ 2c+ 3d+");
-        x.retractAll();
-        x.refuse(1);
-        Due.answer("p", Probe.line(x), "0o+ 1d- 2p- 3p-");
-        x.retractAll();
-        x.setMandatory(2, true);
-        Due.answer("m waits for the parent", Probe.line(x), "0o+ 1? 2? 3?");
+    private static void line(String when, TreeConfigurator x, String due) {
+        Due.answer(when, Probe.line(x), due);
+    }
+
+    // What is known at first
+
+    static void terms_deductionRootChosenAndRefused() {
+        line("one feature", new TreeConfigurator(), "0o+");
+        TreeConfigurator x = Models.flat(3);
+        line("nothing decided", x, "0o+ 1? 2? 3?");
         x.choose(1);
-        Due.answer("m", Probe.line(x), "0o+ 1d+ 2m+ 3?");
-        x.retractAll();
-        x.setMandatory(3, true);
         x.refuse(3);
-        Due.answer("k", Probe.line(x), "0o+ 1k- 2k- 3d-");
-        x.setMandatory(3, false);
+        line("1 chosen, 3 refused", x, "0o+ 1d+ 2? 3d-");
+    }
+
+    static void terms_deductionDecidedIsNotDeduced() {
+        TreeConfigurator x = Models.chain(3);
         x.setMandatory(1, true);
-        Due.answer("m all the way", Probe.line(x), "0o+ 1m+ 2m+ 3d-");
-    }
-
-    private static void groupLetters() {
-        TreeConfigurator x = Models.flat(3);
-        x.setGroup(0, 0, 1);
-        Due.answer("f waits", Probe.line(x), "0o+ 1? 2? 3?");
         x.choose(2);
-        Due.answer("f", Probe.line(x), "0o+ 1f- 2d+ 3f-");
-        x.retractAll();
-        x.setGroup(0, 0, 0);
-        Due.answer("f with 0", Probe.line(x), "0o+ 1f- 2f- 3f-");
-        x.setGroup(0, 2, 12);
-        x.refuse(1);
-        Due.answer("n", Probe.line(x), "0o+ 1d- 2n+ 3n+");
-        x.retractAll();
-        x.setGroup(0, 3, 3);
-        Due.answer("n of all", Probe.line(x), "0o+ 1n+ 2n+ 3n+");
-        TreeConfigurator below = Models.flat(1);
-        below.addFeature(1, 0);
-        below.addFeature(1, 0);
-        below.setGroup(1, 2, 2);
-        Due.answer("n waits for the parent", Probe.line(below), "0o+ 1? 2? 3?");
-        below.refuse(3);
-        Due.answer("g", Probe.line(below), "0o+ 1g- 2p- 3d-");
-        TreeConfigurator leaf = Models.flat(2);
-        leaf.setGroup(2, 1, 1);
-        Due.answer("g of a leaf", Probe.line(leaf), "0o+ 1? 2g-");
-        TreeConfigurator unknownParent = Models.chain(3);
-        unknownParent.setGroup(1, 0, 0);
-        Due.answer("f waits for the parent", Probe.line(unknownParent), "0o+ 1? 2?");
-        unknownParent.choose(1);
-        Due.answer("f then", Probe.line(unknownParent), "0o+ 1d+ 2f-");
+        x.choose(1);
+        line("1 is chosen, mandatory, and has a child", x, "0o+ 1d+ 2d+");
+        TreeConfigurator y = Models.chain(3);
+        y.refuse(1);
+        y.refuse(2);
+        y.exclude(0, 2);
+        line("2 is refused, excluded, and has no parent", y, "0o+ 1d- 2d-");
     }
 
-    private static void ruleLetters() {
-        TreeConfigurator x = Models.flat(3);
-        x.require(1, 2);
-        x.choose(1);
-        Due.answer("requires, forward", Probe.line(x), "0o+ 1d+ 2r+ 3?");
+    // Each letter, when it just applies and when it just does not
+
+    static void terms_letterCAChildIsIn() {
+        TreeConfigurator x = Models.chain(4);
+        line("no child in", x, "0o+ 1? 2? 3?");
+        x.choose(3);
+        line("the last child in", x, "0o+ 1c+ 2c+ 3d+");
+        TreeConfigurator y = Models.broom(10);
+        y.choose(11);
+        line("one of ten in", y, "0o+ 1c+ 2? 3? 4? 5? 6? 7? 8? 9? 10? 11d+");
+        y.retractAll();
+        y.refuse(11);
+        line("one of ten out", y, "0o+ 1? 2? 3? 4? 5? 6? 7? 8? 9? 10? 11d-");
+    }
+
+    static void terms_letterPTheParentIsOut() {
+        TreeConfigurator x = Models.chain(4);
+        x.refuse(1);
+        line("the first out", x, "0o+ 1d- 2p- 3p-");
         x.retractAll();
         x.refuse(2);
-        Due.answer("requires, backward", Probe.line(x), "0o+ 1r- 2d- 3?");
-        x.retractAll();
-        x.choose(2);
-        Due.answer("requires, met", Probe.line(x), "0o+ 1? 2d+ 3?");
-        x.retractAll();
-        x.refuse(1);
-        Due.answer("requires, idle", Probe.line(x), "0o+ 1d- 2? 3?");
-        x.retractAll();
-        x.exclude(3, 1);
-        x.choose(3);
-        Due.answer("excludes, the second", Probe.line(x), "0o+ 1r- 2? 3d+");
+        line("the second out", x, "0o+ 1? 2d- 3p-");
         x.retractAll();
         x.choose(1);
-        Due.answer("excludes, the first", Probe.line(x), "0o+ 1d+ 2r+ 3r-");
-        x.retractAll();
-        x.refuse(1);
-        Due.answer("excludes, met", Probe.line(x), "0o+ 1d- 2? 3?");
-        anyLetters();
-        rootInRules();
+        line("the first in", x, "0o+ 1d+ 2? 3?");
     }
 
-    private static void anyLetters() {
+    static void terms_letterMMandatoryAndTheParentIsIn() {
+        TreeConfigurator x = Models.chain(4);
+        x.setMandatory(2, true);
+        line("the parent is unknown", x, "0o+ 1? 2? 3?");
+        x.choose(1);
+        line("the parent is in", x, "0o+ 1d+ 2m+ 3?");
+        x.retractAll();
+        x.setMandatory(1, true);
+        x.setMandatory(3, true);
+        line("all the way", x, "0o+ 1m+ 2m+ 3m+");
+        x.setMandatory(2, false);
+        line("no more mandatory", x, "0o+ 1m+ 2? 3?");
+    }
+
+    static void terms_letterKAMandatoryChildIsOut() {
+        TreeConfigurator x = Models.chain(4);
+        x.refuse(3);
+        line("a child is out", x, "0o+ 1? 2? 3d-");
+        x.setMandatory(3, true);
+        line("a mandatory child is out", x, "0o+ 1? 2k- 3d-");
+        x.setMandatory(2, true);
+        line("one after the other", x, "0o+ 1k- 2k- 3d-");
+        x.retract(3);
+        line("a mandatory child is unknown", x, "0o+ 1? 2? 3?");
+    }
+
+    static void terms_letterFTheGreatestNumberIsIn() {
+        TreeConfigurator x = Models.flat(4);
+        x.setGroup(0, 0, 2);
+        x.choose(4);
+        line("one of two in", x, "0o+ 1? 2? 3? 4d+");
+        x.choose(2);
+        line("two of two in", x, "0o+ 1f- 2d+ 3f- 4d+");
+        x.setGroup(0, 0, 3);
+        line("two of three in", x, "0o+ 1? 2d+ 3? 4d+");
+    }
+
+    static void terms_letterFNoneMayBeIn() {
+        TreeConfigurator x = Models.flat(11);
+        x.setGroup(0, 0, 0);
+        line("none of 11", x, "0o+ 1f- 2f- 3f- 4f- 5f- 6f- 7f- 8f- 9f- 10f- 11f-");
+        x.setGroup(0, 0, 1);
+        line("one of 11", x, "0o+ 1? 2? 3? 4? 5? 6? 7? 8? 9? 10? 11?");
+    }
+
+    static void terms_letterFTheParentIsIn() {
+        TreeConfigurator x = Models.chain(3);
+        x.setGroup(1, 0, 0);
+        line("the parent is unknown", x, "0o+ 1? 2?");
+        x.choose(1);
+        line("the parent is in", x, "0o+ 1d+ 2f-");
+    }
+
+    static void terms_letterNOnlyTheLeastNumberIsLeft() {
+        TreeConfigurator x = Models.flat(4);
+        x.setGroup(0, 2, 12);
+        x.refuse(1);
+        line("three left where two are needed", x, "0o+ 1d- 2? 3? 4?");
+        x.refuse(3);
+        line("two left where two are needed", x, "0o+ 1d- 2n+ 3d- 4n+");
+        x.retractAll();
+        x.choose(2);
+        x.refuse(3);
+        line("one is in already, one too many left", x, "0o+ 1? 2d+ 3d- 4?");
+        x.refuse(4);
+        line("one is in already, one left", x, "0o+ 1n+ 2d+ 3d- 4d-");
+    }
+
+    static void terms_letterNAllAreNeeded() {
+        TreeConfigurator x = Models.flat(11);
+        x.setGroup(0, 11, 11);
+        line("all of 11", x, "0o+ 1n+ 2n+ 3n+ 4n+ 5n+ 6n+ 7n+ 8n+ 9n+ 10n+ 11n+");
+        x.setGroup(0, 10, 11);
+        line("10 of 11", x, "0o+ 1? 2? 3? 4? 5? 6? 7? 8? 9? 10? 11?");
+    }
+
+    static void terms_letterNTheParentIsIn() {
+        TreeConfigurator x = Models.broom(2);
+        x.setGroup(1, 2, 2);
+        line("the parent is unknown", x, "0o+ 1? 2? 3?");
+        x.choose(1);
+        line("the parent is in", x, "0o+ 1d+ 2n+ 3n+");
+    }
+
+    static void terms_letterGFewerThanTheLeastNumberAreLeft() {
+        TreeConfigurator x = Models.broom(3);
+        x.setGroup(1, 2, 3);
+        x.refuse(2);
+        line("two left where two are needed", x, "0o+ 1? 2d- 3? 4?");
+        x.refuse(4);
+        line("one left where two are needed", x, "0o+ 1g- 2d- 3p- 4d-");
+        TreeConfigurator leaf = Models.flat(2);
+        leaf.setGroup(2, 1, 1);
+        line("a leaf that wants a child", leaf, "0o+ 1? 2g-");
+        leaf.setGroup(2, 12, 12);
+        line("a leaf that wants 12", leaf, "0o+ 1? 2g-");
+        leaf.setGroup(2, 0, 0);
+        line("a leaf that wants none", leaf, "0o+ 1? 2?");
+    }
+
+    /** A child that is known to be in tells 'c', which comes first: so 'g' can't tell of too many. */
+    static void terms_letterGMoreThanTheGreatestNumberIsNeverTold() {
+        TreeConfigurator x = Models.broom(3);
+        x.setGroup(1, 0, 1);
+        x.choose(2);
+        line("as many as the greatest number", x, "0o+ 1c+ 2d+ 3f- 4f-");
+        Due.answer("choose(3)", Due.thrownBy(() -> x.choose(3)), "UnsupportedOperationException");
+    }
+
+    static void terms_letterRRequires() {
+        TreeConfigurator x = Models.flat(3);
+        x.require(1, 2);
+        line("nothing known", x, "0o+ 1? 2? 3?");
+        x.choose(1);
+        line("the first in", x, "0o+ 1d+ 2r+ 3?");
+        x.retractAll();
+        x.refuse(2);
+        line("the second out", x, "0o+ 1r- 2d- 3?");
+        x.retractAll();
+        x.choose(2);
+        line("the second in", x, "0o+ 1? 2d+ 3?");
+        x.retractAll();
+        x.refuse(1);
+        line("the first out", x, "0o+ 1d- 2? 3?");
+    }
+
+    static void terms_letterRExcludes() {
+        TreeConfigurator x = Models.flat(3);
+        x.exclude(3, 1);
+        line("nothing known", x, "0o+ 1? 2? 3?");
+        x.choose(3);
+        line("the first in", x, "0o+ 1r- 2? 3d+");
+        x.retractAll();
+        x.choose(1);
+        line("the second in", x, "0o+ 1d+ 2? 3r-");
+        x.retractAll();
+        x.refuse(1);
+        line("the second out", x, "0o+ 1d- 2? 3?");
+        x.retractAll();
+        x.refuse(3);
+        line("the first out", x, "0o+ 1? 2? 3d-");
+    }
+
+    static void terms_letterRAny() {
         TreeConfigurator x = Models.flat(3);
         x.any(1, 2, 3);
         x.refuse(1);
-        Due.answer("any, two left", Probe.line(x), "0o+ 1d- 2? 3?");
+        line("one out", x, "0o+ 1d- 2? 3?");
         x.refuse(3);
-        Due.answer("any, the second left", Probe.line(x), "0o+ 1d- 2r+ 3d-");
+        line("the second left", x, "0o+ 1d- 2r+ 3d-");
         x.retract(1);
         x.refuse(2);
-        Due.answer("any, the first left", Probe.line(x), "0o+ 1r+ 2d- 3d-");
+        line("the first left", x, "0o+ 1r+ 2d- 3d-");
         x.retract(3);
         x.refuse(1);
-        Due.answer("any, the third left", Probe.line(x), "0o+ 1d- 2d- 3r+");
+        line("the third left", x, "0o+ 1d- 2d- 3r+");
         x.retract(1);
         x.choose(1);
-        Due.answer("any, met", Probe.line(x), "0o+ 1d+ 2d- 3?");
-        x.retract(1);
-        x.lift(0);
-        x.refuse(1);
-        Due.answer("any, lifted", Probe.line(x), "0o+ 1d- 2d- 3?");
+        line("one in, one out", x, "0o+ 1d+ 2d- 3?");
     }
 
-    private static void rootInRules() {
+    static void terms_letterRWithTheRoot() {
         TreeConfigurator x = Models.flat(3);
         x.require(0, 1);
         x.exclude(2, 0);
         x.any(2, 0, 3);
         x.require(3, 0);
-        Due.answer("rules with the root", Probe.line(x), "0o+ 1r+ 2r- 3?");
+        line("rules with the root", x, "0o+ 1r+ 2r- 3?");
         Due.answer("reasonRule(1)", x.reasonRule(1), 0);
         Due.answer("reasonRule(2)", x.reasonRule(2), 1);
     }
 
-    private static void lowestRule() {
+    static void terms_letterRForARuleInForce() {
+        TreeConfigurator x = Models.flat(3);
+        x.require(0, 1);
+        x.exclude(0, 2);
+        x.any(2, 3, 1);
+        x.lift(0);
+        x.refuse(1);
+        line("the first lifted", x, "0o+ 1d- 2r- 3r+");
+        x.lift(1);
+        line("the first two lifted", x, "0o+ 1d- 2? 3?");
+        x.refuse(2);
+        line("the third in force", x, "0o+ 1d- 2d- 3r+");
+        x.lift(2);
+        line("all lifted", x, "0o+ 1d- 2d- 3?");
+    }
+
+    static void terms_letterROfSeveralTheLowestRule() {
         TreeConfigurator x = Models.flat(4);
         x.any(1, 2, 3);
         x.require(1, 4);
@@ -153,121 +268,179 @@ public final class DeductionTest {
         Due.answer("reasonRule(3), by any", x.reasonRule(3), 0);
     }
 
-    /** Where several letters apply, the first of the list is told. */
-    private static void letterOrder() {
-        TreeConfigurator c = Models.chain(3);
-        c.setMandatory(1, true);
-        c.choose(2);
-        Due.answer("c before m", c.reasonOf(1), 'c');
-        TreeConfigurator p = Models.chain(4);
-        p.setMandatory(3, true);
-        p.refuse(3);
-        p.refuse(1);
-        Due.answer("p before k", p.reasonOf(2), 'p');
-        TreeConfigurator m = Models.flat(2);
-        m.setGroup(0, 2, 2);
-        m.require(0, 1);
-        m.setMandatory(1, true);
-        Due.answer("m before n and r", m.reasonOf(1), 'm');
-        Due.answer("n after m", m.reasonOf(2), 'n');
-        TreeConfigurator k = Models.flat(2);
-        k.addFeature(1, 0);
-        k.setMandatory(3, true);
-        k.setGroup(1, 1, 1);
-        k.setGroup(0, 0, 1);
-        k.choose(2);
-        Due.answer("f before g and r", reasonAfterExclude(k, 1), 'f');
-        k.refuse(3);
-        Due.answer("k before f and g", k.reasonOf(1), 'k');
-        TreeConfigurator n = Models.flat(2);
-        n.setGroup(0, 1, 12);
-        n.require(0, 2);
-        n.refuse(1);
-        Due.answer("n before r", n.reasonOf(2), 'n');
-        TreeConfigurator g = Models.flat(2);
-        g.setGroup(2, 1, 1);
-        Due.answer("g before r", reasonAfterExclude(g, 2), 'g');
+    // Where two letters apply to one feature, the one that is listed first; the other pairs of
+    // letters contradict each other, and never apply at once
+
+    static void terms_letterCBeforeM() {
+        TreeConfigurator x = Models.chain(3);
+        x.setMandatory(1, true);
+        x.choose(2);
+        line("c and m", x, "0o+ 1c+ 2d+");
     }
 
-    private static char reasonAfterExclude(TreeConfigurator x, int feature) {
-        x.exclude(0, feature);
-        return x.reasonOf(feature);
+    static void terms_letterCBeforeN() {
+        TreeConfigurator x = Models.chain(3);
+        x.setGroup(0, 1, 1);
+        x.choose(2);
+        line("c and n", x, "0o+ 1c+ 2d+");
     }
 
-    /** After each step the lowest-numbered feature comes first again. */
-    private static void lowestFeatureFirst() {
-        TreeConfigurator y = Models.flat(4);
-        y.require(4, 2);
-        y.require(2, 1);
-        y.require(1, 3);
-        y.require(4, 3);
-        y.choose(4);
-        Due.answer("a chain of rules", Probe.line(y), "0o+ 1r+ 2r+ 3r+ 4d+");
-        Due.answer("1 comes before 3", y.reasonRule(3), 2);
-        y.lift(2);
-        Due.answer("3 by the rule that is left", y.reasonRule(3), 3);
-        TreeConfigurator feature = Models.flat(2);
-        feature.setGroup(0, 0, 1);
-        feature.setMandatory(2, true);
-        feature.exclude(0, 1);
-        Due.answer("the lowest feature before the first letter", Probe.line(feature), "0o+ 1r- 2m+");
-        TreeConfigurator lower = Models.flat(2);
-        lower.setGroup(0, 0, 1);
-        lower.setMandatory(1, true);
-        lower.exclude(0, 2);
-        Due.answer("the lowest feature, not the highest", Probe.line(lower), "0o+ 1m+ 2f-");
-        TreeConfigurator z = Models.flat(4);
-        z.require(3, 1);
-        z.setGroup(0, 3, 4);
-        z.exclude(3, 2);
-        z.choose(3);
-        Due.answer("1 in, 2 out, then 4 is needed", Probe.line(z), "0o+ 1r+ 2r- 3d+ 4n+");
-        TreeConfigurator w = Models.flat(4);
-        w.setGroup(0, 0, 2);
-        w.require(4, 2);
-        w.exclude(4, 3);
-        w.choose(4);
-        Due.answer("2 in first, then 1 and 3 out", Probe.line(w), "0o+ 1f- 2r+ 3f- 4d+");
+    static void terms_letterCBeforeR() {
+        TreeConfigurator x = Models.chain(3);
+        x.require(0, 1);
+        x.choose(2);
+        line("c and r", x, "0o+ 1c+ 2d+");
     }
 
-    private static void answers() {
-        TreeConfigurator x = Models.decided();
-        Due.answer("known(0)", x.known(0), 'i');
-        Due.answer("known(3)", x.known(3), 'n');
-        Due.answer("reasonOf(0)", x.reasonOf(0), 'o');
-        Due.answer("reasonOf(3)", x.reasonOf(3), 'r');
-        Due.answer("reasonRule(3)", x.reasonRule(3), 1);
-        Due.answer("reasonOf(4)", x.reasonOf(4), 'n');
-        Due.answer("reasonOf(5)", x.reasonOf(5), 'd');
-        Due.answer("unknown()", x.unknown(), 0);
-        x.retract(5);
-        Due.answer("known(4)", x.known(4), 'u');
-        Due.answer("known(5)", x.known(5), 'u');
-        Due.answer("unknown() then", x.unknown(), 2);
-        Due.answer("unknown() of all", Models.full().unknown(), 11);
-    }
-
-    private static void refusals() {
-        Due.refusal("known(-1)", INDEX, Models::decided, x -> x.known(-1));
-        Due.refusal("known(7)", INDEX, Models::decided, x -> x.known(7));
-        Due.refusal("known(12)", INDEX, Models::full, x -> x.known(12));
-        Due.refusal("reasonOf(-1)", INDEX, Models::decided, x -> x.reasonOf(-1));
-        Due.refusal("reasonOf(7)", INDEX, Models::decided, x -> x.reasonOf(7));
-        Due.refusal("reasonOf(2)", NONE, Models::bicycle, x -> x.reasonOf(2));
-        Due.refusal("reasonOf(11)", NONE, Models::full, x -> x.reasonOf(11));
-        Due.refusal("reasonRule(-1)", INDEX, Models::decided, x -> x.reasonRule(-1));
-        Due.refusal("reasonRule(7)", INDEX, Models::decided, x -> x.reasonRule(7));
-        Due.refusal("reasonRule(0), o", NONE, Models::decided, x -> x.reasonRule(0));
-        Due.refusal("reasonRule(1), m", NONE, Models::decided, x -> x.reasonRule(1));
-        Due.refusal("reasonRule(5), d", NONE, Models::decided, x -> x.reasonRule(5));
-        Due.refusal("reasonRule(2), unknown", NONE, Models::bicycle, x -> x.reasonRule(2));
-        TreeConfigurator x = Models.decided();
-        x.reasonRule(3);
-        x.retractAll();
-        Due.answer("reasonRule(3), no more", Due.thrownBy(() -> x.reasonRule(3)),
-                "NoSuchElementException");
+    static void terms_letterPBeforeK() {
+        TreeConfigurator x = Models.chain(4);
+        x.setMandatory(3, true);
         x.refuse(3);
-        Due.answer("reasonRule(3), refused", Due.thrownBy(() -> x.reasonRule(3)),
-                "NoSuchElementException");
+        x.refuse(1);
+        line("p and k", x, "0o+ 1d- 2p- 3d-");
+    }
+
+    static void terms_letterPBeforeG() {
+        TreeConfigurator x = Models.chain(3);
+        x.setGroup(2, 1, 1);
+        x.refuse(1);
+        line("p and g", x, "0o+ 1d- 2p-");
+    }
+
+    static void terms_letterPBeforeR() {
+        TreeConfigurator x = Models.chain(3);
+        x.exclude(0, 2);
+        x.refuse(1);
+        line("p and r", x, "0o+ 1d- 2p-");
+    }
+
+    static void terms_letterMBeforeN() {
+        TreeConfigurator x = Models.flat(2);
+        x.setGroup(0, 2, 2);
+        x.setMandatory(1, true);
+        line("m and n", x, "0o+ 1m+ 2n+");
+    }
+
+    static void terms_letterMBeforeR() {
+        TreeConfigurator x = Models.flat(1);
+        x.require(0, 1);
+        x.setMandatory(1, true);
+        line("m and r", x, "0o+ 1m+");
+    }
+
+    static void terms_letterKBeforeF() {
+        TreeConfigurator x = kFG();
+        x.setGroup(1, 0, 1);
+        x.setGroup(0, 0, 1);
+        line("k and f", x, "0o+ 1k- 2d+ 3d-");
+    }
+
+    static void terms_letterKBeforeG() {
+        TreeConfigurator x = kFG();
+        line("k and g", x, "0o+ 1k- 2d+ 3d-");
+    }
+
+    static void terms_letterKBeforeR() {
+        TreeConfigurator x = kFG();
+        x.setGroup(1, 0, 1);
+        x.exclude(0, 1);
+        line("k and r", x, "0o+ 1k- 2d+ 3d-");
+    }
+
+    static void terms_letterFBeforeG() {
+        TreeConfigurator x = Models.flat(2);
+        x.setGroup(0, 0, 1);
+        x.setGroup(1, 1, 1);
+        x.choose(2);
+        line("f and g", x, "0o+ 1f- 2d+");
+    }
+
+    static void terms_letterFBeforeR() {
+        TreeConfigurator x = Models.flat(2);
+        x.setGroup(0, 0, 1);
+        x.exclude(1, 2);
+        x.choose(2);
+        line("f and r", x, "0o+ 1f- 2d+");
+    }
+
+    static void terms_letterNBeforeR() {
+        TreeConfigurator x = Models.flat(2);
+        x.setGroup(0, 1, 12);
+        x.require(0, 2);
+        x.refuse(1);
+        line("n and r", x, "0o+ 1d- 2n+");
+    }
+
+    static void terms_letterGBeforeR() {
+        TreeConfigurator x = Models.flat(2);
+        x.setGroup(2, 1, 1);
+        x.exclude(0, 2);
+        line("g and r", x, "0o+ 1? 2g-");
+    }
+
+    /** 1 has the mandatory child 3, which is refused, and wants one; 2 is chosen. */
+    private static TreeConfigurator kFG() {
+        TreeConfigurator x = Models.flat(2);
+        x.addFeature(1, 0);
+        x.setMandatory(3, true);
+        x.setGroup(1, 1, 1);
+        x.choose(2);
+        x.refuse(3);
+        return x;
+    }
+
+    // The lowest-numbered feature first, after each step anew
+
+    static void terms_lowestFeatureBeforeTheFirstLetter() {
+        TreeConfigurator x = Models.flat(2);
+        x.setGroup(0, 0, 1);
+        x.setMandatory(2, true);
+        x.exclude(0, 1);
+        line("r of 1 before m of 2", x, "0o+ 1r- 2m+");
+        TreeConfigurator y = Models.flat(2);
+        y.setGroup(0, 0, 1);
+        y.setMandatory(1, true);
+        y.exclude(0, 2);
+        line("m of 1, then f of 2", y, "0o+ 1m+ 2f-");
+    }
+
+    static void terms_lowestFeatureAnewAfterEachStep() {
+        TreeConfigurator x = Models.flat(4);
+        x.require(4, 2);
+        x.require(2, 1);
+        x.require(1, 3);
+        x.require(4, 3);
+        x.choose(4);
+        line("a chain of rules", x, "0o+ 1r+ 2r+ 3r+ 4d+");
+        Due.answer("1 comes before 3", x.reasonRule(3), 2);
+        x.lift(2);
+        Due.answer("3 by the rule that is left", x.reasonRule(3), 3);
+        TreeConfigurator y = Models.flat(4);
+        y.setGroup(0, 0, 2);
+        y.require(4, 2);
+        y.exclude(4, 3);
+        y.choose(4);
+        line("2 in first, then 1 and 3 out", y, "0o+ 1f- 2r+ 3f- 4d+");
+    }
+
+    static void terms_lowestFeatureAsLongAsOneApplies() {
+        TreeConfigurator x = Models.flat(11);
+        for (int feature = 11; feature > 1; feature--) {
+            x.require(feature, feature - 1);
+        }
+        x.choose(11);
+        line("ten steps downward", x, "0o+ 1r+ 2r+ 3r+ 4r+ 5r+ 6r+ 7r+ 8r+ 9r+ 10r+ 11d+");
+        x.retract(11);
+        x.refuse(1);
+        line("ten steps upward", x, "0o+ 1d- 2r- 3r- 4r- 5r- 6r- 7r- 8r- 9r- 10r- 11r-");
+        x.retract(1);
+        x.choose(6);
+        line("five steps", x, "0o+ 1r+ 2r+ 3r+ 4r+ 5r+ 6d+ 7? 8? 9? 10? 11?");
+        TreeConfigurator y = Models.chain(12);
+        y.setMandatory(1, true);
+        for (int feature = 2; feature < 12; feature++) {
+            y.setMandatory(feature, true);
+        }
+        line("eleven steps", y, "0o+ 1m+ 2m+ 3m+ 4m+ 5m+ 6m+ 7m+ 8m+ 9m+ 10m+ 11m+");
     }
 }

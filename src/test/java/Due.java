@@ -4,17 +4,23 @@ import java.util.function.Supplier;
 
 /** Compares answers with those that are due, and counts the ones that differ. */
 final class Due {
+    private static String inCase = "";
     private static int wrong = 0;
     private static int compared = 0;
 
     private Due() {
     }
 
+    /** The answers from now on belong to this case. */
+    static void begin(String name) {
+        inCase = name + ": ";
+    }
+
     static void answer(String call, Object got, Object want) {
         compared++;
         if (!Objects.equals(got, want)) {
             wrong++;
-            System.out.println(call + " answered " + got + ", due is " + want);
+            System.out.println(inCase + call + " answered " + got + ", due is " + want);
         }
     }
 

@@ -21,6 +21,16 @@ final class Models {
         return x;
     }
 
+    /** 1 below the root, and as many children of 1, from 2 on, all of them for nothing. */
+    static TreeConfigurator broom(int children) {
+        TreeConfigurator x = new TreeConfigurator();
+        x.addFeature(0, 0);
+        for (int child = 0; child < children; child++) {
+            x.addFeature(1, 0);
+        }
+        return x;
+    }
+
     /**
      * 1 and 2 below the root, 3 to 5 below 1 and 6 below 2; 1 is mandatory with one or two
      * children, 6 excludes 3 (rule 1), 2 requires 4 (rule 0, lifted), and there is a layer.
@@ -50,7 +60,7 @@ final class Models {
         return x;
     }
 
-    /** All 12 features, 20 rules of which none ties anything that is decided, and 6 layers. */
+    /** All 12 features, 20 rules of which none ties anything, and 6 added layers. */
     static TreeConfigurator full() {
         TreeConfigurator x = flat(11);
         for (int rule = 0; rule < 20; rule++) {
@@ -59,6 +69,15 @@ final class Models {
         for (int layer = 0; layer < 6; layer++) {
             x.addSurcharge(layer, 1);
         }
+        return x;
+    }
+
+    /** The full one, with 2 chosen, and 1 and 3 refused. */
+    static TreeConfigurator fullAndDecided() {
+        TreeConfigurator x = full();
+        x.refuse(1);
+        x.choose(2);
+        x.refuse(3);
         return x;
     }
 }
