@@ -159,7 +159,7 @@ public final class DeductionTest {
         line("a leaf that wants none", leaf, "0o+ 1? 2?");
     }
 
-    /** A child that is known to be in tells 'c', which comes first: so 'g' can't tell of too many. */
+    /** A child that is known to be in tells 'c', which comes first: 'g' can't tell of too many. */
     static void terms_letterGMoreThanTheGreatestNumberIsNeverTold() {
         TreeConfigurator x = Models.broom(3);
         x.setGroup(1, 0, 1);

@@ -15,7 +15,7 @@ public final class FeatureTest {
     static void promise2_numbersFrom1To11() {
         TreeConfigurator x = new TreeConfigurator();
         for (int feature = 1; feature <= 11; feature++) {
-            Due.answer("addFeature(" + (feature - 1) + ", 1)", x.addFeature(feature - 1, 1), feature);
+            Due.answer("addFeature below " + (feature - 1), x.addFeature(feature - 1, 1), feature);
         }
         Due.answer("known(11)", x.known(11), 'u');
         Due.answer("a chain of 12 is a configuration", x.isConfiguration(4095), true);

@@ -108,7 +108,8 @@ public final class LineTest {
         for (int features = 2; features <= 12; features++) {
             TreeConfigurator x = Models.flat(features - 1);
             for (int known = 1; known < features; known++) {
-                Due.answer(known + " of " + features, x.knownShare(), (float) known / (float) features);
+                float due = (float) known / (float) features;
+                Due.answer(known + " of " + features, x.knownShare(), due);
                 x.refuse(known);
             }
         }

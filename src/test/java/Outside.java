@@ -1,7 +1,7 @@
 import java.util.function.BiConsumer;
 import java.util.function.Supplier;
 
-/** Calls with numbers that nothing has: the first beyond each end, and such as a shift would wrap. */
+/** Numbers that nothing has: the first beyond each end, and such as a shift would wrap round. */
 final class Outside {
     private Outside() {
     }

@@ -1,7 +1,7 @@
 /**
  * The document's terms: features, sets, rules, configurations, decisions, exceptions, and the 512
- * calls for which an object is used. The terms of deduction are in DeductionTest, those of the order
- * of completions in CheapestTest, and those of the layers in LayerTest.
+ * calls for which an object is used. The terms of deduction are in DeductionTest, those of the
+ * order of completions in CheapestTest, and those of the layers in LayerTest.
  */
 public final class TermsTest {
     public static void main(String[] args) throws IllegalAccessException {
@@ -308,10 +308,11 @@ public final class TermsTest {
             () -> x.addFeature(0, 1), () -> x.addFeature(12, 1), () -> x.addFeature(0, -1),
             () -> x.setMandatory(0, true), () -> x.setMandatory(1, true),
             () -> x.setGroup(0, 10, 10), () -> x.setGroup(0, 2, 1), () -> x.setGroup(12, 0, 1),
-            () -> x.require(0, 1), () -> x.exclude(0, 2), () -> x.any(1, 1, 3), () -> x.any(1, 2, 12),
-            () -> x.lift(20), () -> x.choose(1), () -> x.choose(0), () -> x.choose(12),
-            () -> x.refuse(2), () -> x.refuse(0), () -> x.refuse(-1), () -> x.retract(4),
-            () -> x.retract(0), () -> x.addBundle(1, 2, 3), () -> x.addBundle(1, 12, 3),
+            () -> x.require(0, 1), () -> x.exclude(0, 2), () -> x.any(1, 1, 3),
+            () -> x.any(1, 2, 12), () -> x.lift(20), () -> x.lift(-1),
+            () -> x.choose(1), () -> x.choose(0), () -> x.choose(12), () -> x.refuse(2),
+            () -> x.refuse(0), () -> x.refuse(-1), () -> x.retract(4), () -> x.retract(0),
+            () -> x.addBundle(1, 2, 3), () -> x.addBundle(1, 12, 3),
             () -> x.addPercent(1), () -> x.addPercent(101), () -> x.addSurcharge(1, 1),
             () -> x.addSurcharge(13, 1), () -> x.force(0, true), () -> x.force(12, false),
             () -> x.fewest(0, false), () -> x.toRetract(0, false), () -> x.lineAt(-1),
