@@ -213,7 +213,7 @@ public final class TreeConfigurator {
 
     public boolean isConfiguration(int set) throws IllegalArgumentException {
         checkSet(set);
-        return tree.allows(set) && rules.holdFor(set);
+        return isAllowed(set);
     }
 
     public long completions() {
@@ -222,7 +222,8 @@ public final class TreeConfigurator {
 
     public long completionsByAll() {
         long number = 0;
-        for (int set = 0; set <= tree.allFeatures(); set++) {
+        int all = tree.allFeatures();
+        for (int set = 0; set <= all; set++) {
             if (isCompletion(set)) {
                 number++;
             }
@@ -276,7 +277,8 @@ public final class TreeConfigurator {
 
     public int cheapestByAll() {
         int best = NONE;
-        for (int set = 0; set <= tree.allFeatures(); set++) {
+        int all = tree.allFeatures();
+        for (int set = 0; set <= all; set++) {
             if (isCompletion(set)) {
                 best = prices.cheaperOf(best, set);
             }
@@ -337,13 +339,16 @@ public final class TreeConfigurator {
 
     public float knownShare() {
         int all = tree.count;
-        return (float) (all - countUnknown()) / (float) all;
+        int known = all - countUnknown();
+        // There is always the root; the test keeps NaN away even so.
+        return all > 0 ? (float) known / (float) all : 0.0f;
     }
 
     public double meanPrice() {
         long sum = 0;
         long number = 0;
-        for (int set = 0; set <= tree.allFeatures(); set++) {
+        int all = tree.allFeatures();
+        for (int set = 0; set <= all; set++) {
             if (isCompletion(set)) {
                 sum += prices.ofSet(set);
                 number++;
@@ -413,14 +418,18 @@ public final class TreeConfigurator {
         return Search.reaches(tree, rules, ROOT, 0, chosen, refused);
     }
 
+    private boolean isAllowed(int set) {
+        return tree.allows(set) && rules.holdFor(set);
+    }
+
     private boolean isCompletion(int set) {
-        return (chosen & ~set) == 0 && (refused & set) == 0
-                && tree.allows(set) && rules.holdFor(set);
+        return (chosen & ~set) == 0 && (refused & set) == 0 && isAllowed(set);
     }
 
     private int featuresInAll() {
-        int inAll = tree.allFeatures();
-        for (int set = 0; set <= tree.allFeatures(); set++) {
+        int all = tree.allFeatures();
+        int inAll = all;
+        for (int set = 0; set <= all; set++) {
             if (isCompletion(set)) {
                 inAll &= set;
             }
@@ -430,7 +439,8 @@ public final class TreeConfigurator {
 
     private int featuresInSome() {
         int inSome = 0;
-        for (int set = 0; set <= tree.allFeatures(); set++) {
+        int all = tree.allFeatures();
+        for (int set = 0; set <= all; set++) {
             if (isCompletion(set)) {
                 inSome |= set;
             }
@@ -483,8 +493,9 @@ public final class TreeConfigurator {
      */
     private int decisionsAgainst(int feature, boolean isIn) {
         int best = NONE;
-        for (int set = 0; set <= tree.allFeatures(); set++) {
-            if (has(set, feature) == isIn && tree.allows(set) && rules.holdFor(set)) {
+        int all = tree.allFeatures();
+        for (int set = 0; set <= all; set++) {
+            if (has(set, feature) == isIn && isAllowed(set)) {
                 best = smallerOf(best, chosen & ~set | refused & set);
             }
         }

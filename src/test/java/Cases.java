@@ -6,10 +6,10 @@ import java.util.List;
 
 /**
  * Runs the cases of a test: its static methods without parameters whose names tell the promise, or
- * "terms", and the case. A case that throws fails, and the others still run.
+ * "terms" or "readme", and the case. A case that throws fails, and the others still run.
  */
 final class Cases {
-    private static final String NAME = "(promise[0-9]+|terms)_[A-Za-z0-9]+";
+    private static final String NAME = "(promise[0-9]+|terms|readme)_[A-Za-z0-9]+";
 
     private Cases() {
     }
